@@ -556,7 +556,7 @@ public final class PipPortrait {
                 put(now.first, k, 2 * k);
                 put(now.other, k, 2 * k + 1);
             } else {
-                // Two rows hold as many places as there are columns.
+                // Two rows hold as many places as there are columns, which are odd here, so not 0.
                 int upper = k + k / columns * columns;
                 put(now.first, k, upper);
                 put(now.other, k, upper + columns);
@@ -854,8 +854,8 @@ public final class PipPortrait {
             int start = corner + (alongRow ? 1 : columns);
             int step = alongRow ? columns : 1;
             put(now.other, k, corner + step);
+            // Its other square is the lower right one, whichever way it lies.
             put(now.first, l, start);
-            put(now.other, l, start + step);
             layBetterWay(k);
             layBetterWay(l);
             numberAnew(l);
