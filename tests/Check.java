@@ -10,6 +10,7 @@ final class Check {
 
     private int wrong;
     private int right;
+    private String sentence = "";
 
     /** The answer of a call as a text, or the name of the very class that it throws. */
     static String told(Call call) {
@@ -18,6 +19,11 @@ final class Check {
         } catch (RuntimeException e) {
             return e.getClass().getSimpleName();
         }
+    }
+
+    /** The sentence of the document that what follows is about. */
+    void sentence(String words) {
+        sentence = "\"" + words + "\": ";
     }
 
     void due(String what, long want, Call call) {
@@ -34,7 +40,7 @@ final class Check {
         } else {
             wrong++;
             if (wrong <= 50) {
-                System.out.println(what + " answered " + got + ", due is " + want);
+                System.out.println(sentence + what + " answered " + got + ", due is " + want);
             }
         }
     }
