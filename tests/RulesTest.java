@@ -21,12 +21,22 @@ import java.util.regex.Pattern;
 public final class RulesTest {
     private static final Check CHECK = new Check();
 
+    private static final String ARGUMENT = " IllegalArgumentException";
+    private static final String INDEX = " IndexOutOfBoundsException";
+    private static final String STATE = " IllegalStateException";
+
+    // Each method with the exceptions that the document's face names behind it, in their order.
     private static final String[] FACE = {
-        "about(int)", "append(int)", "begin(int,int)", "best(int)", "clearText()", "errorPosition()", "fade(int,int)",
-        "fits(int)", "flip(int,int)", "gain(int)", "grey(int,int,int)", "hold(int,boolean)", "ifImproved(int,int)",
-        "improve(int)", "lay()", "least()", "load()", "place(int,int)", "restore(int)", "runScript(int,long)",
-        "save(int)", "simulate(long,int)", "square(int,int,int)", "swap(int,int)", "tile(int,int)", "turn(int)",
-        "undo()", "worst(int)"};
+        "append(int)" + ARGUMENT + STATE, "clearText()", "errorPosition()", "load()" + STATE,
+        "about(int)" + ARGUMENT, "square(int,int,int)" + INDEX + ARGUMENT, "place(int,int)" + INDEX + ARGUMENT,
+        "tile(int,int)" + INDEX + ARGUMENT,
+        "begin(int,int)" + ARGUMENT, "grey(int,int,int)" + INDEX + ARGUMENT, "fade(int,int)" + ARGUMENT,
+        "turn(int)" + INDEX + STATE, "swap(int,int)" + INDEX + ARGUMENT + STATE, "flip(int,int)" + INDEX + STATE,
+        "hold(int,boolean)" + INDEX, "lay()", "improve(int)" + ARGUMENT, "undo()" + STATE,
+        "gain(int)" + ARGUMENT, "best(int)" + ARGUMENT, "ifImproved(int,int)" + ARGUMENT, "least()", "worst(int)" + INDEX,
+        "fits(int)" + INDEX,
+        "runScript(int,long)" + ARGUMENT, "simulate(long,int)" + ARGUMENT,
+        "save(int)" + INDEX, "restore(int)" + INDEX + STATE};
 
     public static void main(String[] args) throws Exception {
         String path = args.length > 0 ? args[0] : "src/main/java/PipPortrait.java";
@@ -49,7 +59,9 @@ public final class RulesTest {
             CHECK.holds("answers an int: " + m, m.getReturnType() == int.class);
             StringBuilder told = new StringBuilder(m.getName()).append('(');
             for (Class<?> p : m.getParameterTypes()) told.append(told.charAt(told.length() - 1) == '(' ? "" : ",").append(p.getName());
-            names.add(told.append(')').toString());
+            told.append(')');
+            for (Class<?> thrown : m.getExceptionTypes()) told.append(' ').append(thrown.getSimpleName());
+            names.add(told.toString());
         }
         CHECK.same("the methods", new TreeSet<>(Arrays.asList(FACE)).toString(), names.toString());
         int constants = 0;
@@ -60,6 +72,7 @@ public final class RulesTest {
             }
         }
         CHECK.holds("one constant", constants == 1);
+        CHECK.due("NONE", -1, () -> PipPortrait.NONE);
         Constructor<?>[] made = c.getDeclaredConstructors();
         CHECK.holds("one public constructor without parameters",
                 made.length == 1 && Modifier.isPublic(made[0].getModifiers()) && made[0].getParameterCount() == 0);
